@@ -1,9 +1,10 @@
-/** Counts answers that are not due, and tells each of them. */
+/** Counts answers that are not due, tells each of them, and feeds texts to objects of FogShare. */
 final class Checks {
     private int wrong;
     private int all;
     private String about = "";
 
+    /** What the answers looked at next are about: a promise of the document. */
     void about(String what) {
         about = what;
     }
@@ -18,6 +19,43 @@ final class Checks {
 
     void due(String call, boolean got, boolean want) {
         due(call, got ? 1 : 0, want ? 1 : 0);
+    }
+
+    /** Feeds a text, a byte a char; what fills it up to twenties is taken back. */
+    void feed(FogShare fog, String text) {
+        for (int at = 0; at < text.length(); at += 20) {
+            int[] words = new int[5];
+            for (int i = 0; i < 20; i++) {
+                words[i / 4] = words[i / 4] << 8 | (at + i < text.length() ? text.charAt(at + i) & 255 : ' ');
+            }
+            due("feed", fog.feed(words[0], words[1], words[2], words[3], words[4]), at + 20);
+        }
+        int over = (20 - text.length() % 20) % 20;
+        due("back", fog.back(over), text.length());
+    }
+
+    /** Reads a text without a FAULT. */
+    FogShare read(FogShare fog, String text) {
+        feed(fog, text);
+        due("read of " + text, fog.read(), 0);
+        due("place of " + text, fog.place(), -1);
+        return fog;
+    }
+
+    FogShare read(String text) {
+        return read(new FogShare(), text);
+    }
+
+    /** Reads a text with a FAULT, which is at the ^ (that is no part of the text). */
+    void fault(int number, FogShare fog, String text) {
+        String rest = text.replace("^", "");
+        feed(fog, rest);
+        due("read of " + text, fog.read(), number);
+        due("place of " + text, fog.place(), text.indexOf('^'));
+    }
+
+    void fault(int number, String text) {
+        fault(number, new FogShare(), text);
     }
 
     /** Ends the test: with exit code 1 if an answer was not due. */
