@@ -26,6 +26,7 @@ public final class FogShare {
     private static final int MOST_FOG = 99;
     private static final int MOST_STORE = 999;
     private static final int MOST_RATION = 99;
+    private static final int MOST_GIVEN = 99;
     private static final int MOST_AHEAD = 72;
     private static final int MOST_BY_HAND = 48;
     private static final int MOST_UNSEEN = 40;
@@ -184,9 +185,11 @@ public final class FogShare {
             case 1:
                 return now.whose[cell];
             case 2:
-                return sky.ofCell(plan, now, cell, sky.blowing(plan, now.hour), DRIFTS_LAW);
+                sky.beginHour(plan, now.hour);
+                return sky.ofCell(plan, now, cell, DRIFTS_LAW);
             case 3:
-                return sky.ofCell(plan, now, cell, sky.blowing(plan, now.hour), THINS_LAW);
+                sky.beginHour(plan, now.hour);
+                return sky.ofCell(plan, now, cell, THINS_LAW);
             default:
                 return NO_CELL;
         }
@@ -450,7 +453,7 @@ public final class FogShare {
     }
 
     public int wind(int n) {
-        return isAhead(n) ? sky.blowing(plan, now.hour + n) : NONE;
+        return isAhead(n) ? sky.beginHour(plan, now.hour + n) : NONE;
     }
 
     public int lent(int holding, int other) {
@@ -1262,12 +1265,6 @@ public final class FogShare {
             vars[VAR_DAY] = hour / DAY_HOURS;
         }
 
-        private void setVar(int name, int value) {
-            if (name >= 0 && name < VARS) {
-                vars[name] = value;
-            }
-        }
-
         private int answer(int law) {
             int at = law >= 0 && law < LAWS ? starts[law] : 0;
             int top = 0;
@@ -1521,23 +1518,27 @@ public final class FogShare {
         private final int[] moved = new int[CELLS];
 
         private void passHour(Plan plan, Going going, int seed, int leaking) {
-            int blows = blowing(plan, going.hour);
+            int blows = beginHour(plan, going.hour);
             if (blows > 0) {
                 step(plan, going, blows);
                 if (isGust(plan, seed, going.hour)) {
                     step(plan, going, blows);
                 }
             }
-            thinAll(plan, going, blows, leaking);
+            thinAll(plan, going, leaking);
             going.hour++;
             if (going.hour % DAY_HOURS == 0) {
                 giveAll(plan, going);
             }
         }
 
-        private int blowing(Plan plan, int hour) {
-            plan.laws.clearVars(hour);
-            return Math.max(plan.laws.answer(WIND_LAW) % WINDS, 0);
+        /** What WIND tells; the VARS that are the same for all CELLS in this hour are set for them. */
+        private int beginHour(Plan plan, int hour) {
+            Laws laws = plan.laws;
+            laws.clearVars(hour);
+            int blows = Math.max(laws.answer(WIND_LAW) % WINDS, 0);
+            laws.vars[VAR_BLOWS] = blows;
+            return blows;
         }
 
         private boolean isGust(Plan plan, int seed, int hour) {
@@ -1552,12 +1553,12 @@ public final class FogShare {
 
         private void step(Plan plan, Going going, int blows) {
             fill(moved, 0);
-            for (int y = 0; y < plan.down && y < HIGH; y++) {
-                for (int x = 0; x < plan.across && x < WIDE; x++) {
-                    int cell = y * WIDE + x;
-                    int goes = ofCell(plan, going, cell, blows, DRIFTS_LAW);
-                    int next = plan.cellAt(x + stepAcross(blows), y + stepDown(blows));
-                    moved[cell] += going.fog[cell] - goes;
+            for (int cell = 0; cell < CELLS; cell++) {
+                int fog = going.fog[cell];
+                if (fog > 0) {
+                    int goes = ofCell(plan, going, cell, DRIFTS_LAW);
+                    int next = plan.cellAt(cell % WIDE + stepAcross(blows), cell / WIDE + stepDown(blows));
+                    moved[cell] += fog - goes;
                     if (next >= 0 && next < CELLS) {
                         moved[next] += goes;
                     }
@@ -1566,40 +1567,38 @@ public final class FogShare {
             copy(moved, going.fog);
         }
 
-        private void thinAll(Plan plan, Going going, int blows, int leaking) {
-            for (int i = 0; i < CELLS; i++) {
-                if (going.fog[i] > 0) {
-                    int stays = going.fog[i] - ofCell(plan, going, i, blows, THINS_LAW);
-                    going.fog[i] = within(i == leaking ? stays - plan.leak : stays, MOST_FOG);
+        private void thinAll(Plan plan, Going going, int leaking) {
+            for (int cell = 0; cell < CELLS; cell++) {
+                if (going.fog[cell] > 0) {
+                    int stays = going.fog[cell] - ofCell(plan, going, cell, THINS_LAW);
+                    going.fog[cell] = within(cell == leaking ? stays - plan.leak : stays, MOST_FOG);
                 }
             }
         }
 
-        private void giveAll(Plan plan, Going going) {
-            for (int i = 0; i < plan.holdings && i < MOST_HOLDINGS; i++) {
-                Laws laws = plan.laws;
-                laws.clearVars(going.hour);
-                laws.setVar(VAR_WHOSE, i);
-                laws.setVar(VAR_STORE, going.store[i]);
-                laws.setVar(VAR_RATION, plan.ration[i]);
-                laws.setVar(VAR_FOG, going.fogOf(i));
-                going.store[i] = Math.min(going.store[i] + within(laws.answer(GIVES_LAW), 99), MOST_STORE);
-            }
-        }
-
-        /** What DRIFTS or THINS of a CELL, held to the FOG there. */
-        private int ofCell(Plan plan, Going going, int cell, int blows, int law) {
-            if (cell < 0 || cell >= CELLS || going.fog[cell] <= 0) {
+        /** What DRIFTS or THINS of a CELL in the hour that is begun, held to the FOG there. */
+        private int ofCell(Plan plan, Going going, int cell, int law) {
+            if (cell < 0 || cell >= CELLS) {
                 return 0;
             }
             Laws laws = plan.laws;
-            laws.clearVars(going.hour);
-            laws.setVar(VAR_FOG, going.fog[cell]);
-            laws.setVar(VAR_ACROSS, cell % WIDE);
-            laws.setVar(VAR_DOWN, cell / WIDE);
-            laws.setVar(VAR_WHOSE, going.whose[cell]);
-            laws.setVar(VAR_BLOWS, blows);
+            laws.vars[VAR_FOG] = going.fog[cell];
+            laws.vars[VAR_ACROSS] = cell % WIDE;
+            laws.vars[VAR_DOWN] = cell / WIDE;
+            laws.vars[VAR_WHOSE] = going.whose[cell];
             return within(laws.answer(law), going.fog[cell]);
+        }
+
+        private void giveAll(Plan plan, Going going) {
+            Laws laws = plan.laws;
+            laws.clearVars(going.hour);
+            for (int i = 0; i < plan.holdings && i < MOST_HOLDINGS; i++) {
+                laws.vars[VAR_WHOSE] = i;
+                laws.vars[VAR_STORE] = going.store[i];
+                laws.vars[VAR_RATION] = plan.ration[i];
+                laws.vars[VAR_FOG] = going.fogOf(i);
+                going.store[i] = Math.min(going.store[i] + within(laws.answer(GIVES_LAW), MOST_GIVEN), MOST_STORE);
+            }
         }
     }
 
