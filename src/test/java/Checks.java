@@ -1,5 +1,11 @@
+import java.util.Map;
+import java.util.WeakHashMap;
+
 /** Counts answers that are not due, tells each of them, and feeds texts to objects of FogShare. */
 final class Checks {
+    private static final int MOST_CALLS = 512;
+
+    private final Map<FogShare, Integer> calls = new WeakHashMap<>();
     private int wrong;
     private int all;
     private String about = "";
@@ -7,6 +13,13 @@ final class Checks {
     /** What the answers looked at next are about: a promise of the document. */
     void about(String what) {
         about = what;
+    }
+
+    /** No test may rest on what a 513th call answers. */
+    void called(FogShare fog) {
+        if (calls.merge(fog, 1, Integer::sum) > MOST_CALLS) {
+            throw new IllegalStateException(about + ": a 513th call");
+        }
     }
 
     void due(String call, long got, long want) {
@@ -28,17 +41,25 @@ final class Checks {
             for (int i = 0; i < 20; i++) {
                 words[i / 4] = words[i / 4] << 8 | (at + i < text.length() ? text.charAt(at + i) & 255 : ' ');
             }
+            called(fog);
             due("feed", fog.feed(words[0], words[1], words[2], words[3], words[4]), at + 20);
         }
         int over = (20 - text.length() % 20) % 20;
+        called(fog);
         due("back", fog.back(over), text.length());
+    }
+
+    private void readAndPlace(FogShare fog, String text, int fault, int place) {
+        called(fog);
+        due("read of " + text, fog.read(), fault);
+        called(fog);
+        due("place of " + text, fog.place(), place);
     }
 
     /** Reads a text without a FAULT. */
     FogShare read(FogShare fog, String text) {
         feed(fog, text);
-        due("read of " + text, fog.read(), 0);
-        due("place of " + text, fog.place(), -1);
+        readAndPlace(fog, text, 0, -1);
         return fog;
     }
 
@@ -50,8 +71,7 @@ final class Checks {
     void fault(int number, FogShare fog, String text) {
         String rest = text.replace("^", "");
         feed(fog, rest);
-        due("read of " + text, fog.read(), number);
-        due("place of " + text, fog.place(), text.indexOf('^'));
+        readAndPlace(fog, text, number, text.indexOf('^'));
     }
 
     void fault(int number, String text) {
