@@ -606,13 +606,10 @@ public final class EdgeAheadTest {
         C.about("III (promise 29): by s SEEDS from the text's SEED on, past 9999 too");
         for (int seed : new int[] {0, 1, 500, 9979, 9980, 9981, 9998, 9999}) {
             FogShare x = C.read("row ooa;holding h 1 1;use u h 0 23 1;bank 0 0 9;wind=1;drifts=fog;thins=0;gusts 50;seed " + seed + ";");
-            FogShare late = C.read("row oooooooa;holding h 1 1;use u h 0 23 1;bank 0 0 9;wind=if hour<1 then 1 else if hour<2 then 1 else 0;drifts=3;"
-                + "thins=0;gusts 50;seed " + seed + ";");
             int due = 0;
             for (int s = 1; s <= 20; s++) {
                 due += EdgeHoursTest.lot(100, seed + s - 1, 0) < 50 ? 1 : 0;
                 E.due(x, due, "year", 0, 1, s);
-                E.due(late, 0, "year", 0, 2, s);
             }
         }
         C.about("III (promise 29): the hour is counted on from now, the SEED is the text's");

@@ -262,11 +262,11 @@ public final class EdgeHoursTest {
     }
 
     private static void heldToTheFog() {
-        C.about("II (promises 6 and 14): DRIFTS, held to 0 .. the FOG there");
         String[] laws = {"0-1", "0-9999", "0", "1", "fog-1", "fog", "fog+1", "9999", "9999*9999*9999"};
         int[] goes = {0, 0, 0, 1, 8, 9, 9, 9, 0};
         for (int i = 0; i < laws.length; i++) {
             int due = i < 8 ? goes[i] : Math.max(0, Math.min(9, 9999 * 9999 * 9999));
+            C.about("II (promises 6 and 14): DRIFTS, held to 0 .. the FOG there");
             FogShare x = C.read("row oo;bank 0 0 9;thins=0;wind=1;drifts=" + laws[i] + ";");
             E.due(x, due, "cell", 0, 0, 2);
             E.due(x, 0, "cell", 1, 0, 2);
