@@ -35,6 +35,8 @@ public final class RulesTest {
         face();
         classes();
         words(source);
+        library(source);
+        made(source);
         methods(source);
         System.out.println("RulesTest: " + looked + " looked at, " + wrong + " not as told");
         if (wrong > 0 || looked == 0) {
@@ -125,6 +127,25 @@ public final class RulesTest {
             so(!Pattern.compile(pattern).matcher(code).find(), "a word that is not to stand there: " + word);
         }
         so(!Pattern.compile("\\bString\\s*\\[").matcher(code).find(), "rule 5: an array of texts");
+    }
+
+    /** What stands behind a class's name and a point: of the library just two functions, and one of its own. */
+    private static void library(String source) {
+        Set<String> used = new TreeSet<>();
+        Matcher m = Pattern.compile("\\b[A-Z]\\w*[a-z]\\w*\\.\\w+").matcher(withoutComments(source));
+        while (m.find()) {
+            used.add(m.group());
+        }
+        so(used.equals(Set.of("Math.max", "Math.min", "Tokens.lettersOf")), "rule 4: " + used);
+    }
+
+    /** Objects are made with the fields that hold them and in loops of two constructors: no call makes one. */
+    private static void made(String source) {
+        Pattern field = Pattern.compile(" +private (final )?[\\w\\[\\]]+ \\w+ = new .*;");
+        for (String line : withoutComments(source).split("\n")) {
+            boolean row = line.trim().equals("slots[i] = new Going();") || line.trim().equals("ring[i] = new Going();");
+            so(!line.contains("new ") || row || field.matcher(line).matches(), "README, no call makes an object: " + line.trim());
+        }
     }
 
     /** Methods as this file is written: a head of one line, its end in the column where the head begins. */
